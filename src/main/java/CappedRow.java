@@ -113,21 +113,18 @@ public final class CappedRow {
     // ---- 2 acts
 
     public int add(int from, int to, long v) {
-        int refused = refusedAct(from, to, v);
-        if (refused != 0) {
-            return refused;
-        }
-        act(ADDS, from, to, v);
-        return log.count;
+        int refused = refusedAim(from, to, v);
+        int done = refused != 0 ? refused : act(ADDS, from, to, v);
+        return done < 0 ? done : log.count;
     }
 
     public int cap(int from, int to, long v) {
-        int refused = refusedAct(from, to, v);
+        int refused = refusedAim(from, to, v);
         return refused != 0 ? refused : act(CAPS, from, to, v);
     }
 
     public int floor(int from, int to, long v) {
-        int refused = refusedAct(from, to, v);
+        int refused = refusedAim(from, to, v);
         return refused != 0 ? refused : act(FLOORS, from, to, v);
     }
 
@@ -142,11 +139,8 @@ public final class CappedRow {
         if (way != 0 && way != 1) {
             return OUTSIDE;
         }
-        if (log.isFull()) {
-            return FULL;
-        }
-        act(way == 1 ? LIFTS : LOWERS, from, to, h);
-        return helpers.strength(h);
+        int done = act(way == 1 ? LIFTS : LOWERS, from, to, h);
+        return done < 0 ? done : helpers.strength(h);
     }
 
     public int fresh() {
@@ -181,6 +175,7 @@ public final class CappedRow {
         return wrong != NONE ? WRONG_BASE - wrong : ofTrial(what);
     }
 
+    /** How many numbers became others; FULL: the log takes no more. */
     private int act(int sort, int from, int to, long v) {
         Act next = log.next();
         if (next == null) {
@@ -309,8 +304,8 @@ public final class CappedRow {
         if (first < from || last > to) {
             return true;
         }
-        long second = second(now.number, first, last);
-        return second != LOST && second >= v;
+        long below = second(now.number, first, last);
+        return below != LOST && below >= v;
     }
 
     // ---- 4 what stands where
@@ -322,7 +317,7 @@ public final class CappedRow {
         if (v < -FARTHEST_READING || v > FARTHEST_READING) {
             return OUTSIDE;
         }
-        return readings.isFull() ? FULL : readings.keep(k, v);
+        return readings.keep(k, v);
     }
 
     public int back(int n) {
@@ -553,20 +548,13 @@ public final class CappedRow {
         return to < from ? OUTSIDE : 0;
     }
 
+    /** What a run and the number of an act on it are refused with; 0: they can be. */
     private int refusedAim(int from, int to, long v) {
         int refused = refusedRun(from, to);
         if (refused != 0) {
             return refused;
         }
         return v < -FARTHEST_ACT || v > FARTHEST_ACT ? OUTSIDE : 0;
-    }
-
-    private int refusedAct(int from, int to, long v) {
-        int refused = refusedAim(from, to, v);
-        if (refused != 0) {
-            return refused;
-        }
-        return log.isFull() ? FULL : 0;
     }
 
     private int failed(int fault) {
@@ -836,12 +824,9 @@ public final class CappedRow {
             }
         }
 
-        boolean isFull() {
-            return count >= MOST_ACTS;
-        }
-
+        /** Null, if there is no room for one more. */
         Act next() {
-            if (isFull()) {
+            if (count >= MOST_ACTS) {
                 return null;
             }
             count++;
@@ -954,11 +939,11 @@ public final class CappedRow {
         final int[] cell = new int[MOST_READINGS];
         final long[] value = new long[MOST_READINGS];
 
-        boolean isFull() {
-            return count >= MOST_READINGS;
-        }
-
+        /** Its number, or FULL. */
         int keep(int k, long v) {
+            if (count >= MOST_READINGS) {
+                return FULL;
+            }
             cell[count] = k;
             value[count] = v;
             count++;
