@@ -180,6 +180,7 @@ public final class DayTest {
             Due.isLost("sort " + sort, x, x.day(1, 2, 0, 2, 0), 0);
             Due.isLost("sort " + sort + ", first wrong", x, x.day(1, 2, 0, 2, 1), 0);
             Due.isWithout("ahead of sort " + sort, x, x.day(1, 2, 0, 1, 0), 28);
+            Due.isLost("first sort " + sort, x, x.day(1, 2, 4, 1, 0), 0);
             Due.write(x, 1, 2, 0, 9, 9, 1, sort, 0, 4, 1);
             Due.isLost("sort " + sort + " behind a wrong act", x, x.day(1, 2, 0, 2, 1), 0);
         }

@@ -23,6 +23,7 @@ public final class SpansTest {
         areOfRun(x, 0, 6, 23, 7, 0, 2, 3, 5, 7, 23);
         areOfRun(x, 1, 2, 14, 7, 7, 2, Due.LOST, 1, 7, 14);
         areOfRun(x, 5, 5, 0, 0, 0, 1, Due.LOST, 1, 0, 0);
+        areOfRun(x, 4, 6, 3, 2, 0, 1, 1, 3, 2, 3);
         areOfRun(x, 3, 6, 6, 3, 0, 1, 2, 4, 3, 6);
         x.add(1, 3, -10);
         areOfRun(x, 0, 6, -7, 3, -7, 1, 2, 6, 7, 23);
@@ -110,6 +111,9 @@ public final class SpansTest {
         Due.is("13 all", x.looks(0, 4, 2), 9);
         Due.is("13 far below", x.looks(0, 4, -1000000000000L), 9);
         Due.is("13 one cell: 1, 2, 4 are not wholly in it", x.looks(1, 1, 6), 7);
+        Due.is("13 part, the greatest is v", x.looks(1, 1, 7), 1);
+        Due.is("13 part, what is behind the run is left", x.looks(0, 0, 4), 7);
+        Due.is("13 part, what is ahead of the run is left", x.looks(4, 4, 4), 5);
         Due.is("13 one cell, not more than v", x.looks(0, 0, 6), 7);
         Due.is("13 the run's spans are not more than v", x.looks(3, 4, 6), 3);
         Due.is("13 wholly in it, second less than v", x.looks(3, 4, 4), 3);

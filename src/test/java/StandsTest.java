@@ -184,6 +184,8 @@ public final class StandsTest {
         areOdds(x, 0, 11, 4, 1, 2);
         areOdds(x, 0, 11, 6, 1, 3);
         areOdds(x, 0, 11, 10, 0, 1);
+        areOdds(x, 0, 3, 3, 1, 2);
+        areOdds(x, 0, 9, 4, 3, 5);
         areOdds(x, 3, 3, 4, 1, 1);
         areOdds(x, 3, 3, 5, 0, 1);
         areOdds(x, 0, 8, 7, 1, 3);
