@@ -8,15 +8,25 @@ final class Due {
 
     private static int asked = 0;
     private static int wrong = 0;
+    /** The test that is going on, so that an answer that is not as due can be told by it. */
+    private static String test = "";
 
     private Due() {
+    }
+
+    static void begin(String name) {
+        test = name + ": ";
+    }
+
+    static int howManyAsked() {
+        return asked;
     }
 
     static void is(String what, long got, long due) {
         asked++;
         if (got != due) {
             wrong++;
-            System.out.println(what + ": answered " + got + ", due is " + due);
+            System.out.println(test + what + ": answered " + got + ", due is " + due);
         }
     }
 

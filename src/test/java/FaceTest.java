@@ -30,6 +30,7 @@ public final class FaceTest {
         constructor();
         classesInside();
         source();
+        everyPromiseHasItsTest();
         Due.end("FaceTest");
     }
 
@@ -106,6 +107,17 @@ public final class FaceTest {
             for (Field field : one.getDeclaredFields()) {
                 Due.isSo(field + " is no static one", !Modifier.isStatic(field.getModifiers()));
             }
+        }
+    }
+
+    /** .ci/run runs what ends with Test, so a promise is tried if there is a file that bears its number. */
+    private static void everyPromiseHasItsTest() throws IOException {
+        String document = Files.readString(Path.of("../shared/DOC.md"));
+        int promises = (int) Pattern.compile("^## Promise \\d+:", Pattern.MULTILINE).matcher(document).results().count();
+        Due.is("promises", promises, 30);
+        for (int p = 1; p <= promises; p++) {
+            String file = String.format("src/test/java/Promise%02dTest.java", p);
+            Due.isSo(file + " is there", Files.exists(Path.of(file)));
         }
     }
 
