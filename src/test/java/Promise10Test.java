@@ -11,6 +11,7 @@ public final class Promise10Test {
         day.says("NUMBER of a CELL k then (what 10 and k; LOST: there is no such CELL)", Promise10Test::cells);
         day.says("the sum of all (what 0), its FIRST WRONG (1; NONE), the greatest of all then (2), the least (3)",
             Promise10Test::emptyDay);
+        day.says("the greatest of all then (2), the least (3)", Promise10Test::extremesAtEachPlace);
         day.says("the greatest that any ever had in it (4; now, too)", Promise10Test::greatestInIt);
         day.says("sort 0 ADD, 1 CAP, 2 FLOOR; 3, 4: the HELPER of that number LIFTS, LOWERS", Promise10Test::sorts);
         day.says("there is no such CELL", Promise10Test::noSuchCell);
@@ -118,6 +119,15 @@ public final class Promise10Test {
         CappedRow low = busyWith(2, 0, 0, 4, Integer.MIN_VALUE, 0, 0, 4, Integer.MIN_VALUE).get();
         answers("less than an int", low, 2, 42 + 10L * Integer.MIN_VALUE, 12 + 2L * Integer.MIN_VALUE,
             6 + 2L * Integer.MIN_VALUE, 12);
+    }
+
+    private static void extremesAtEachPlace() {
+        for (int k = 0; k < 16; k++) {
+            CappedRow x = Due.of("r" + "5".repeat(16));
+            Due.write(x, 3, 2, 0, k, k, 1, 0, k, k, -2);
+            answers("greatest at " + k, x, 1, 81, 6, 5, 6);
+            answers("least at " + k, x, 2, 79, 5, 4, 6);
+        }
     }
 
     private static void greatestInIt() {
@@ -267,9 +277,10 @@ public final class Promise10Test {
     }
 
     private static void outsideWhat() {
-        int[] none = {-1, 5, 6, 9, 26, Edge.LEAST, Edge.MOST};
+        int[] none = {-1, 5, 6, 9, 26, 27, Edge.LEAST, Edge.MOST};
         for (int what : none) {
             lost("what " + what, Made::busy, asked(2, 2, 0, 1, what), 0);
+            lost("what " + what + " of a day with a first wrong", Made::busy, asked(2, 2, 1, 1, what), 0);
         }
         int[] there = {0, 1, 2, 3, 4, 10, 14};
         for (int what : there) {
@@ -343,7 +354,10 @@ public final class Promise10Test {
         lost("lane", Made::withoutRow, asked(3, 3, -1, 1, 0), 0);
         lost("n", Made::withoutRow, asked(2, 1, -1, 13, 0), 0);
         lost("n", Made::withoutRow, asked(2, 1, -1, -1, 0), 0);
-        lost("what", Made::withoutRow, asked(2, 1, -1, 1, 5), 0);
+        int[] outside = {-1, 5, 9, 26, 27, Edge.LEAST, Edge.MOST};
+        for (int what : outside) {
+            lost("what " + what, Made::withoutRow, asked(2, 1, -1, 1, what), 0);
+        }
         lost("cast", Made::withoutRow, asked(2, 1, -1, 1, 0), 2);
         lost("null", Made::withoutRow, asked(3, 1, -1, 1, 0), 1);
         lost("index", Made::withoutRow, asked(2, 2, -1, 1, 0), 3);

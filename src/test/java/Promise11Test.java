@@ -7,6 +7,7 @@ public final class Promise11Test {
         ask.says("0 the sum, 1 the greatest, 2 the least, 3 how many are greatest", Promise11Test::outsideWhat);
         ask.says("4 the greatest less than that (LOST: there is none)", Promise11Test::second);
         ask.says("3 how many are greatest", Promise11Test::howManyGreatest);
+        ask.says("1 the greatest, 2 the least", Promise11Test::extremesAtEachPlace);
         ask.says("5 how many unlike NUMBERS", Promise11Test::unlike);
         ask.says("6 the greatest HISTORIC, 7 all HISTORIC together", Promise11Test::historic);
         ask.says("Of a RUN", Promise11Test::ofOneCellAndOfAll);
@@ -66,6 +67,25 @@ public final class Promise11Test {
         x.add(0, 0, 1);
         Due.is("one more", x.ask(0, 3, 3), 1);
         Due.is("16 alike", Due.of("r" + "4".repeat(16)).ask(0, 15, 3), 16);
+    }
+
+    private static void extremesAtEachPlace() {
+        for (int k = 0; k < 16; k++) {
+            CappedRow x = Due.of("r" + "5".repeat(16));
+            x.add(k, k, 1);
+            Due.is("greatest at " + k, x.ask(0, 15, 1), 6);
+            Due.is("second elsewhere", x.ask(0, 15, 4), 5);
+            Due.is("one greatest", x.ask(0, 15, 3), 1);
+            x.add(k, k, -2);
+            Due.is("least at " + k, x.ask(0, 15, 2), 4);
+            Due.is("second at " + k, x.ask(0, 15, 4), 4);
+            Due.is("15 greatest", x.ask(0, 15, 3), 15);
+            Due.is("greatest historic at " + k, x.ask(0, 15, 6), 6);
+            Due.is("all historic", x.ask(0, 15, 7), 81);
+            Due.is("sum", x.ask(0, 15, 0), 79);
+            Due.is("least without it, ahead", k == 0 ? 5 : x.ask(0, k - 1, 2), 5);
+            Due.is("least without it, behind", k == 15 ? 5 : x.ask(k + 1, 15, 2), 5);
+        }
     }
 
     private static void unlike() {
